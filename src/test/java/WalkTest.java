@@ -1,0 +1,60 @@
+/** Promise 13: walk. */
+public final class WalkTest {
+    private static final Due DUE = new Due();
+
+    public static void main(String[] args) {
+        onOnePiece();
+        sameSecondsCountEach();
+        ofNoPieces();
+        refusals();
+        DUE.end();
+    }
+
+    private static void walks(String what, WayTimes x, int a, int b, long... want) {
+        for (int n = 1; n <= want.length; n++) {
+            DUE.same(what + " walk " + n, x.walk(0, a, b, 0, n), want[n - 1]);
+        }
+    }
+
+    private static void onOnePiece() {
+        WayTimes x = Due.row(2);
+        walks("there", x, 0, 1, 100, 300, 500, 700, 900, 1100);
+        walks("and back", x, 1, 1, 0, 200, 400, 600, 800, 1000);
+    }
+
+    private static void sameSecondsCountEach() {
+        WayTimes x = new WayTimes();
+        x.net(2);
+        x.piece(0, 1, 1000, 36);
+        x.piece(1, 0, 1000, 36);
+        x.unit(0, 0, 0, 1, 1);
+        walks("there", x, 0, 1, 100, 100, 300, 300, 300, 300);
+        walks("and back", x, 0, 0, 0, 200, 200, 200, 200, 400);
+        x.piece(0, 1, 3000, 36);
+        walks("a third piece", x, 0, 1, 100, 100, 300, 300, 300, 300);
+    }
+
+    private static void ofNoPieces() {
+        WayTimes x = Due.row(3);
+        x.speed(1, 0);
+        x.close(0, true);
+        walks("nothing leads away", x, 1, 1, 0, -1, -1, -1, -1, -1);
+        walks("nothing leads there", x, 0, 2, -1, -1, -1, -1, -1, -1);
+        x.close(0, false);
+        walks("behind opening", x, 1, 1, 0, 200, 400, 600, 800, 1000);
+    }
+
+    private static void refusals() {
+        WayTimes x = Due.row(2);
+        DUE.unknown("unit -1", () -> x.walk(-1, 0, 0, 0, 1));
+        DUE.unknown("unit 1 of 1", () -> x.walk(1, 0, 0, 0, 1));
+        DUE.unknown("a -1", () -> x.walk(0, -1, 0, 0, 1));
+        DUE.unknown("a 2 of 2", () -> x.walk(0, 2, 0, 0, 1));
+        DUE.unknown("b -1", () -> x.walk(0, 0, -1, 0, 1));
+        DUE.unknown("b 2 of 2", () -> x.walk(0, 0, 2, -1, 0));
+        DUE.outside("t -1", () -> x.walk(0, 0, 1, -1, 1));
+        DUE.outside("n 0", () -> x.walk(0, 0, 1, 0, 0));
+        DUE.outside("n -1", () -> x.walk(0, 0, 1, 0, -1));
+        DUE.outside("n 7", () -> x.walk(0, 0, 1, 0, 7));
+    }
+}
