@@ -11,7 +11,6 @@ public final class AnyArgumentsTest {
     private static final Due DUE = new Due();
     private static final int[] ODD = {Integer.MIN_VALUE, Integer.MIN_VALUE + 1, -1000, -2, -1, 6, 7, 12, 13, 20, 21, 23, 24,
         100, 101, 149, 150, 151, 199, 200, 201, 1000, 1001, 3600, 60000, 60001, 86400, Integer.MAX_VALUE - 1, Integer.MAX_VALUE};
-    private static final String[] OF_THE_MACHINE = {"Index ", "length", "zero", "null", "class ", "-1"};
 
     public static void main(String[] args) throws Exception {
         List<Method> face = new ArrayList<>();
@@ -59,11 +58,8 @@ public final class AnyArgumentsTest {
         if (!List.of(method.getExceptionTypes()).contains(thrown.getClass())) {
             DUE.tell(call + ", which its face does not name");
         }
-        for (String words : OF_THE_MACHINE) {
-            if (thrown.getMessage() == null || thrown.getMessage().contains(words)) {
-                DUE.tell(call + ", by the machine");
-                return;
-            }
+        if (Due.byTheMachine(thrown)) {
+            DUE.tell(call + ", by the machine");
         }
     }
 }

@@ -4,12 +4,20 @@ public final class ChangeTest {
 
     public static void main(String[] args) {
         limits();
+        limitsReplaceEachOther();
         limitRefusals();
         slowHours();
+        slowTakesItsEdges();
+        rowsOutliveOtherChanges();
         slowRefusals();
         closes();
+        aNewPieceIsOpen();
         speeds();
+        speedTakesItsEdges();
         countsTreesThatTellOthers();
+        countsNoneAndAllSix();
+        countsATreeOnceForManyNodes();
+        countsEachCallAgainstTheOneBefore();
         DUE.end();
     }
 
@@ -31,6 +39,23 @@ public final class ChangeTest {
         DUE.same("way without limits", x.way(0, 0, 1, 0), 100);
         DUE.same("only a weight limit", x.limit(0, 1000, 0), 0);
         DUE.same("only a height limit", x.limit(0, 0, 1), 1);
+    }
+
+    private static void limitsReplaceEachOther() {
+        WayTimes x = new WayTimes();
+        x.net(2);
+        x.piece(0, 1, 1000, 36);
+        x.unit(0, 10, 0, 1, 1);
+        x.unit(0, 0, 10, 1, 1);
+        x.limit(0, 9, 0);
+        DUE.same("the heavy one does not go", x.way(0, 0, 1, 0), -1);
+        DUE.same("the high one goes", x.way(1, 0, 1, 0), 100);
+        x.limit(0, 0, 9);
+        DUE.same("the heavy one goes", x.way(0, 0, 1, 0), 100);
+        DUE.same("the high one does not go", x.way(1, 0, 1, 0), -1);
+        x.limit(0, 1000, 1000);
+        DUE.same("the heavy one goes at 1,000", x.way(0, 0, 1, 0), 100);
+        DUE.same("the high one goes at 1,000", x.way(1, 0, 1, 0), 100);
     }
 
     private static void limitRefusals() {
@@ -62,6 +87,37 @@ public final class ChangeTest {
         DUE.same("way in hour 7", x.way(0, 0, 1, 7 * 3600), 200);
     }
 
+    private static void slowTakesItsEdges() {
+        WayTimes x = Due.row(5);
+        x.keep(0, 0, 0, 0);
+        DUE.same("0 to 0 at percent 1", x.slow(0, 0, 0, 1), 1);
+        DUE.same("seconds at percent 1", x.seconds(0, 0, 0), 10_000);
+        DUE.same("23 to 23 at percent 100", x.slow(1, 23, 23, 100), 0);
+        DUE.same("0 to 23 at percent 99", x.slow(2, 0, 23, 99), 1);
+        DUE.same("seconds at percent 99", x.seconds(0, 2, 0), 102);
+        DUE.same("22 to 23", x.slow(3, 22, 23, 50), 0);
+        DUE.same("seconds in hour 23", x.seconds(0, 3, 23 * 3600), 200);
+        for (int row = 1; row < 3; row++) {
+            DUE.same("row " + row, x.slow(0, 1, 1, 1), 0);
+        }
+        DUE.noRoom("a fourth row", () -> x.slow(0, 0, 0, 1));
+        DUE.same("a third row of another piece", x.slow(1, 0, 0, 100) + x.slow(1, 0, 0, 100), 0);
+        DUE.noRoom("a fourth row of that", () -> x.slow(1, 0, 0, 100));
+    }
+
+    private static void rowsOutliveOtherChanges() {
+        WayTimes x = Due.row(2);
+        x.slow(0, 0, 23, 50);
+        x.close(0, true);
+        x.slow(0, 0, 23, 10);
+        x.close(0, false);
+        x.speed(0, 72);
+        x.limit(0, 5, 5);
+        DUE.same("the first row still counts", x.seconds(0, 0, 0), 100);
+        DUE.same("one row is left", x.slow(0, 0, 0, 1), 0);
+        DUE.noRoom("no row is left", () -> x.slow(0, 0, 0, 1));
+    }
+
     private static void slowRefusals() {
         WayTimes x = Due.row(2);
         DUE.unknown("piece -1", () -> x.slow(-1, 0, 0, 1));
@@ -77,7 +133,10 @@ public final class ChangeTest {
         }
         DUE.noRoom("row 3", () -> x.slow(0, 0, 0, 1));
         DUE.outside("the range comes before the room", () -> x.slow(0, 0, 0, 0));
-        DUE.unknown("the piece comes before the range", () -> x.slow(1, 0, 0, 0));
+        DUE.unknown("the piece comes before percent", () -> x.slow(1, 0, 0, 0));
+        DUE.unknown("the piece comes before the hours", () -> x.slow(1, -1, 24, 1));
+        DUE.outside("the hours come before the room", () -> x.slow(0, 5, 4, 1));
+        DUE.unknown("the piece comes before the room", () -> x.slow(-1, 0, 0, 1));
         DUE.same("a refused row is not there", x.seconds(0, 0, 0), 100);
     }
 
@@ -96,6 +155,17 @@ public final class ChangeTest {
         DUE.unknown("piece 1 of 1", () -> x.close(1, false));
     }
 
+    private static void aNewPieceIsOpen() {
+        WayTimes x = Due.row(2);
+        DUE.notInState("open at first", () -> x.close(0, false));
+        DUE.same("close without trees", x.close(0, true), 0);
+        DUE.same("open without trees", x.close(0, false), 0);
+        DUE.notInState("open again", () -> x.close(0, false));
+        DUE.same("close again", x.close(0, true), 0);
+        x.speed(0, 0);
+        DUE.notInState("closed whatever its speed", () -> x.close(0, true));
+    }
+
     private static void speeds() {
         WayTimes x = Due.row(2);
         x.keep(0, 0, 0, 0);
@@ -112,6 +182,73 @@ public final class ChangeTest {
         DUE.outside("speed -1", () -> x.speed(0, -1));
         DUE.outside("speed 201", () -> x.speed(0, 201));
         DUE.same("a refused speed is not there", x.way(0, 0, 1, 0), 100);
+    }
+
+    private static void speedTakesItsEdges() {
+        WayTimes x = Due.row(2);
+        x.keep(0, 0, 0, 0);
+        DUE.same("speed 1", x.speed(0, 1), 1);
+        DUE.tree("speed 1", x, 0, 0, 3600);
+        DUE.same("speed 1 again", x.speed(0, 1), 0);
+        DUE.same("speed 0", x.speed(0, 0), 1);
+        DUE.tree("speed 0", x, 0, 0, -1);
+        DUE.same("speed 0 again", x.speed(0, 0), 0);
+        DUE.same("speed 200", x.speed(0, 200), 1);
+        DUE.tree("speed 200", x, 0, 0, 18);
+        DUE.same("speed 199 tells 19", x.speed(0, 199), 1);
+        DUE.tree("speed 199", x, 0, 0, 19);
+        DUE.same("speed 198 tells 19 too", x.speed(0, 198), 0);
+    }
+
+    private static void countsNoneAndAllSix() {
+        WayTimes x = Due.row(3);
+        DUE.same("no trees, limit", x.limit(0, 1, 1), 0);
+        DUE.same("no trees, slow", x.slow(0, 0, 23, 50), 0);
+        DUE.same("no trees, close", x.close(0, true), 0);
+        DUE.same("no trees, speed", x.speed(0, 72), 0);
+        x.close(0, false);
+        x.limit(0, 0, 0);
+        x.unit(0, 5, 0, 1, 1);
+        for (int slot = 0; slot < 6; slot++) {
+            x.keep(slot, slot % 3, 1, 0);
+        }
+        DUE.same("six trees, limit", x.limit(1, 4, 0), 6);
+        DUE.same("six trees, limit gone", x.limit(1, 5, 0), 6);
+        DUE.same("six trees, slow", x.slow(1, 0, 23, 50), 6);
+        DUE.same("six trees, close", x.close(1, true), 6);
+        DUE.same("six trees, a closed piece", x.speed(1, 200) + x.limit(1, 0, 0) + x.slow(1, 0, 23, 1), 0);
+        DUE.same("six trees, open", x.close(1, false), 6);
+        DUE.same("six trees, speed", x.speed(1, 1), 6);
+        DUE.same("six trees, the same speed", x.speed(1, 1), 0);
+        DUE.same("six trees, the same limits", x.limit(1, 0, 0), 0);
+        DUE.same("six trees, limits that let pass", x.limit(1, 5, 1), 0);
+    }
+
+    private static void countsATreeOnceForManyNodes() {
+        WayTimes x = Due.row(10);
+        x.keep(2, 0, 0, 0);
+        DUE.same("nine nodes have others", x.speed(0, 72), 1);
+        DUE.same("one node has others", x.speed(8, 72), 1);
+        DUE.same("only the last node is lost", x.close(8, true), 1);
+        DUE.same("all nodes but the tree's own are lost", x.close(0, true), 1);
+        x.keep(3, 9, 0, 0);
+        DUE.same("only the tree at the other end has others", x.close(8, false), 1);
+        DUE.same("out of reach of the one", x.speed(4, 72), 1);
+    }
+
+    private static void countsEachCallAgainstTheOneBefore() {
+        WayTimes x = Due.row(2);
+        x.keep(0, 0, 0, 0);
+        DUE.same("slower", x.speed(0, 18), 1);
+        DUE.same("as at first, but not as before", x.speed(0, 36), 1);
+        x.keep(0, 1, 0, 0);
+        DUE.same("a new tree in the slot tells its own", x.limit(0, 0, 0), 0);
+        x.piece(0, 1, 500, 36);
+        DUE.same("a piece is reckoned in at once", x.slow(0, 0, 0, 1), 0);
+        x.close(1, true);
+        DUE.tree("behind it the slow one is left", x, 0, 10_000, 0);
+        x.stand(0, 1);
+        DUE.same("stand() is no change of a tree", x.limit(0, 0, 0), 0);
     }
 
     private static void countsTreesThatTellOthers() {

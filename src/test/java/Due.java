@@ -4,7 +4,23 @@ final class Due {
         void make();
     }
 
+    private static final String[] OF_THE_MACHINE = {"Index ", "length", "zero", "null", "class ", "-"};
+
     private int wrong;
+
+    /** A written throw has words of its own; what the machine throws tells an index, a length or a divisor. */
+    static boolean byTheMachine(Throwable thrown) {
+        String message = thrown.getMessage();
+        if (message == null) {
+            return true;
+        }
+        for (String words : OF_THE_MACHINE) {
+            if (message.contains(words)) {
+                return true;
+            }
+        }
+        return false;
+    }
 
     void same(String call, long got, long want) {
         if (got != want) {
@@ -19,6 +35,8 @@ final class Due {
         } catch (RuntimeException e) {
             if (e.getClass() != want) {
                 tell(call + " threw " + e.getClass().getName() + ", due is " + want.getName());
+            } else if (byTheMachine(e)) {
+                tell(call + " let the machine throw " + e);
             }
             return;
         }
@@ -35,6 +53,17 @@ final class Due {
 
     void noRoom(String call, Call made) {
         refused(UnsupportedOperationException.class, call, made);
+    }
+
+    void notInState(String call, Call made) {
+        refused(IllegalStateException.class, call, made);
+    }
+
+    /** A kept tree tells these seconds, node by node. */
+    void tree(String call, WayTimes x, int slot, long... want) {
+        for (int node = 0; node < want.length; node++) {
+            same(call + " kept(" + slot + ", " + node + ")", x.kept(slot, node), want[node]);
+        }
     }
 
     /** The steps of the latest way are these and no more. */

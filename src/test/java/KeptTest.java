@@ -4,6 +4,9 @@ public final class KeptTest {
 
     public static void main(String[] args) {
         slots();
+        whatWasThereGoes();
+        aTreeOfOneNode();
+        aTreeOf200Nodes();
         asAnewBehindEachChange();
         keepRefusals();
         keptRefusals();
@@ -23,6 +26,47 @@ public final class KeptTest {
         DUE.same("and the other stays", x.kept(5, 0), 150);
         x.close(1, true);
         DUE.same("no way", x.kept(0, 0), -1);
+    }
+
+    private static void whatWasThereGoes() {
+        WayTimes x = Due.row(3);
+        x.unit(0, 10, 0, 1, 2);
+        x.slow(0, 1, 1, 50);
+        x.keep(5, 0, 0, 0);
+        DUE.tree("first", x, 5, 0, 100, 200);
+        x.keep(5, 1, 0, 0);
+        DUE.tree("another node", x, 5, 100, 0, 100);
+        x.keep(5, 1, 1, 0);
+        DUE.tree("another unit", x, 5, 200, 0, 200);
+        x.keep(5, 1, 1, 3600);
+        DUE.tree("another time", x, 5, 400, 0, 200);
+        x.keep(5, 1, 1, 3600);
+        DUE.tree("the same again", x, 5, 400, 0, 200);
+        DUE.same("what went is not redone", x.slow(0, 0, 0, 1), 0);
+        DUE.same("what is there is", x.limit(1, 9, 0), 1);
+        DUE.tree("redone", x, 5, 400, 0, -1);
+    }
+
+    private static void aTreeOfOneNode() {
+        WayTimes x = new WayTimes();
+        x.net(1);
+        x.unit(0, 0, 0, 1, 1);
+        x.keep(0, 0, 0, 0);
+        DUE.tree("its own node", x, 0, 0);
+        DUE.refused(ArrayIndexOutOfBoundsException.class, "node 1 of 1", () -> x.kept(0, 1));
+    }
+
+    private static void aTreeOf200Nodes() {
+        WayTimes x = new WayTimes();
+        x.net(200);
+        x.unit(0, 0, 0, 1, 1);
+        x.keep(0, 199, 0, 0);
+        DUE.same("its own node", x.kept(0, 199), 0);
+        DUE.same("the first node", x.kept(0, 0), -1);
+        x.piece(199, 0, 1000, 36);
+        DUE.same("the first node behind a piece", x.kept(0, 0), 100);
+        DUE.same("the node before the last", x.kept(0, 198), -1);
+        DUE.refused(ArrayIndexOutOfBoundsException.class, "node 200 of 200", () -> x.kept(0, 200));
     }
 
     private static void asAnewBehindEachChange() {
@@ -59,6 +103,8 @@ public final class KeptTest {
         DUE.unknown("unit -1", () -> x.keep(0, 1, -1, 0));
         DUE.unknown("unit 1 of 1", () -> x.keep(0, 1, 1, -1));
         DUE.outside("t -1", () -> x.keep(0, 1, 0, -1));
+        DUE.unknown("the slot comes before t", () -> x.keep(6, 0, 0, -1));
+        DUE.unknown("the node comes before t", () -> x.keep(0, 2, 0, -1));
         DUE.same("refused, what was there stays", x.kept(0, 1), 100);
         DUE.outside("t -1 in an empty slot", () -> x.keep(1, 1, 0, -1));
         DUE.unknown("refused, nothing is kept", () -> x.kept(1, 0));
@@ -74,5 +120,8 @@ public final class KeptTest {
         DUE.refused(ArrayIndexOutOfBoundsException.class, "node -1", () -> x.kept(2, -1));
         DUE.refused(ArrayIndexOutOfBoundsException.class, "node 2 of 2", () -> x.kept(2, 2));
         DUE.refused(ArrayIndexOutOfBoundsException.class, "node 199 of 2", () -> x.kept(2, 199));
+        DUE.refused(ArrayIndexOutOfBoundsException.class, "the greatest node", () -> x.kept(2, Integer.MAX_VALUE));
+        DUE.refused(ArrayIndexOutOfBoundsException.class, "the lowest node", () -> x.kept(2, Integer.MIN_VALUE));
+        DUE.unknown("the slot comes before a node below 0", () -> x.kept(6, -1));
     }
 }

@@ -5,28 +5,35 @@ public final class NetTest {
     public static void main(String[] args) {
         newObjectHasNoNodes();
         sizes();
+        emptyNet();
         allIsForgotten();
+        allSixTreesAreForgotten();
+        roomIsThereAgain();
+        sameSizeForgetsToo();
         refusedNetChangesNothing();
         DUE.end();
     }
 
     private static void newObjectHasNoNodes() {
-        WayTimes x = new WayTimes();
-        DUE.unknown("piece on a new object", () -> x.piece(0, 1, 1, 1));
-        DUE.unknown("unit on a new object", () -> x.unit(0, 0, 0, 1, 1));
-        DUE.unknown("nearest on a new object", () -> x.nearest(0, 0));
-        DUE.unknown("stand on a new object", () -> x.stand(0, 0));
-        DUE.unknown("seconds on a new object", () -> x.seconds(0, 0, 0));
-        DUE.unknown("way on a new object", () -> x.way(0, 0, 0, 0));
-        DUE.unknown("walk on a new object", () -> x.walk(0, 0, 0, 0, 1));
-        DUE.unknown("rest on a new object", () -> x.rest(0, 0, 0, 0, 0));
-        DUE.unknown("keep on a new object", () -> x.keep(0, 0, 0, 0));
-        DUE.unknown("kept on a new object", () -> x.kept(0, 0));
-        DUE.unknown("limit on a new object", () -> x.limit(0, 0, 0));
-        DUE.unknown("slow on a new object", () -> x.slow(0, 0, 0, 1));
-        DUE.unknown("close on a new object", () -> x.close(0, true));
-        DUE.unknown("speed on a new object", () -> x.speed(0, 0));
-        DUE.steps("new object", x);
+        hasNoNodes("a new object", new WayTimes());
+    }
+
+    private static void hasNoNodes(String what, WayTimes x) {
+        DUE.unknown("piece in " + what, () -> x.piece(0, 1, 1, 1));
+        DUE.unknown("unit in " + what, () -> x.unit(0, 0, 0, 1, 1));
+        DUE.unknown("nearest in " + what, () -> x.nearest(0, 0));
+        DUE.unknown("stand in " + what, () -> x.stand(0, 0));
+        DUE.unknown("seconds in " + what, () -> x.seconds(0, 0, 0));
+        DUE.unknown("way in " + what, () -> x.way(0, 0, 0, 0));
+        DUE.unknown("walk in " + what, () -> x.walk(0, 0, 0, 0, 1));
+        DUE.unknown("rest in " + what, () -> x.rest(0, 0, 0, 0, 0));
+        DUE.unknown("keep in " + what, () -> x.keep(0, 0, 0, 0));
+        DUE.unknown("kept in " + what, () -> x.kept(0, 0));
+        DUE.unknown("limit in " + what, () -> x.limit(0, 0, 0));
+        DUE.unknown("slow in " + what, () -> x.slow(0, 0, 0, 1));
+        DUE.unknown("close in " + what, () -> x.close(0, true));
+        DUE.unknown("speed in " + what, () -> x.speed(0, 0));
+        DUE.steps(what, x);
     }
 
     private static void sizes() {
@@ -43,6 +50,69 @@ public final class NetTest {
         DUE.unknown("net(greatest)", () -> x.net(Integer.MAX_VALUE));
         DUE.refused(NegativeArraySizeException.class, "net(-1)", () -> x.net(-1));
         DUE.refused(NegativeArraySizeException.class, "net(lowest)", () -> x.net(Integer.MIN_VALUE));
+    }
+
+    private static void emptyNet() {
+        WayTimes x = new WayTimes();
+        x.net(0);
+        hasNoNodes("a net of 0", x);
+        x.net(2);
+        DUE.same("a net behind an empty one", x.piece(0, 1, 1, 1), 0);
+        x.net(0);
+        hasNoNodes("an empty net behind another one", x);
+    }
+
+    private static void allSixTreesAreForgotten() {
+        WayTimes x = Due.row(3);
+        for (int slot = 0; slot < 6; slot++) {
+            x.keep(slot, 0, 0, 0);
+        }
+        x.net(3);
+        for (int slot = 0; slot < 6; slot++) {
+            int old = slot;
+            DUE.unknown("old tree " + slot, () -> x.kept(old, 0));
+        }
+        x.piece(0, 1, 1000, 36);
+        x.unit(0, 0, 0, 1, 1);
+        DUE.same("no old tree tells others", x.speed(0, 72), 0);
+        x.keep(0, 1, 0, 0);
+        DUE.tree("a new tree", x, 0, 50, 0, -1);
+        DUE.unknown("the others stay forgotten", () -> x.kept(5, 0));
+    }
+
+    private static void roomIsThereAgain() {
+        WayTimes x = new WayTimes();
+        for (int times = 0; times < 2; times++) {
+            x.net(2);
+            for (int i = 0; i < 150; i++) {
+                DUE.same("piece " + i, x.piece(0, 1, 1000, 36), i);
+            }
+            for (int i = 0; i < 12; i++) {
+                DUE.same("unit " + i, x.unit(0, 0, 0, 1, 1), i);
+            }
+            for (int row = 0; row < 3; row++) {
+                DUE.same("row " + row, x.slow(0, 0, 23, 50), 0);
+            }
+            DUE.noRoom("piece 150", () -> x.piece(0, 1, 1000, 36));
+            DUE.noRoom("unit 12", () -> x.unit(0, 0, 0, 1, 1));
+            DUE.noRoom("row 3", () -> x.slow(0, 0, 23, 50));
+        }
+    }
+
+    private static void sameSizeForgetsToo() {
+        WayTimes x = new WayTimes();
+        x.net(2);
+        x.piece(0, 1, 1000, 36);
+        x.close(0, true);
+        x.net(2);
+        DUE.same("a piece in the place of a closed one", x.piece(0, 1, 1000, 36), 0);
+        DUE.notInState("is open", () -> x.close(0, false));
+        x.unit(1, 0, 0, 1, 1);
+        DUE.same("a unit of its own", x.nearest(0, 0), 0);
+        x.net(2);
+        DUE.same("no units", x.nearest(0, 0), -1);
+        x.unit(0, 0, 0, 1, 1);
+        DUE.same("no pieces", x.way(0, 0, 1, 0), -1);
     }
 
     private static void allIsForgotten() {

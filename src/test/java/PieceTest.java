@@ -4,6 +4,8 @@ public final class PieceTest {
 
     public static void main(String[] args) {
         numbersAndRanges();
+        edgesAreTaken();
+        aNewPieceIsPlain();
         room();
         treesAreAsAnew();
         DUE.end();
@@ -27,6 +29,38 @@ public final class PieceTest {
         DUE.unknown("the node comes before the range", () -> x.piece(0, 3, 0, 201));
         DUE.unknown("one node comes before the range", () -> x.piece(0, 0, 0, 201));
         DUE.same("refused pieces have no number", x.piece(1, 2, 1, 1), 2);
+    }
+
+    private static void edgesAreTaken() {
+        WayTimes x = new WayTimes();
+        x.net(200);
+        x.unit(0, 0, 0, 1, 1);
+        DUE.same("from the first node to the last", x.piece(0, 199, 1, 1), 0);
+        DUE.same("1 metre at 1", x.seconds(0, 0, 0), 4);
+        DUE.same("from the last node to the first", x.piece(199, 0, 60_000, 200), 1);
+        DUE.same("60,000 metres at 200", x.seconds(0, 1, 0), 1080);
+        DUE.same("1 metre at 200", x.piece(0, 1, 1, 200), 2);
+        DUE.same("seconds of it", x.seconds(0, 2, 0), 1);
+        DUE.same("60,000 metres at 1", x.piece(0, 1, 60_000, 1), 3);
+        DUE.same("seconds of that", x.seconds(0, 3, 0), 216_000);
+        DUE.same("speed 0", x.piece(0, 1, 1, 0), 4);
+        DUE.refused(ArithmeticException.class, "seconds at speed 0", () -> x.seconds(0, 4, 0));
+    }
+
+    private static void aNewPieceIsPlain() {
+        WayTimes x = Due.row(2);
+        x.limit(0, 1, 1);
+        x.slow(0, 0, 23, 1);
+        x.close(0, true);
+        x.unit(0, 1000, 1000, 1, 1);
+        DUE.same("one more", x.piece(0, 1, 1000, 36), 1);
+        DUE.same("it has no limits and is open", x.way(1, 0, 1, 0), 100);
+        DUE.same("it has no rows", x.seconds(1, 1, 0), 100);
+        DUE.notInState("it is open", () -> x.close(1, false));
+        for (int row = 0; row < 3; row++) {
+            DUE.same("it has room for row " + row, x.slow(1, 0, 0, 1), 0);
+        }
+        DUE.noRoom("and no more", () -> x.slow(1, 0, 0, 1));
     }
 
     private static void room() {

@@ -5,6 +5,8 @@ public final class WalkTest {
     public static void main(String[] args) {
         onOnePiece();
         sameSecondsCountEach();
+        onATriangle();
+        walksOfOtherUnitsAndHours();
         ofNoPieces();
         refusals();
         DUE.end();
@@ -34,6 +36,34 @@ public final class WalkTest {
         walks("a third piece", x, 0, 1, 100, 100, 300, 300, 300, 300);
     }
 
+    private static void onATriangle() {
+        WayTimes x = new WayTimes();
+        x.net(3);
+        x.piece(0, 1, 10, 36);
+        x.piece(1, 2, 20, 36);
+        x.piece(2, 0, 40, 36);
+        x.unit(0, 0, 0, 1, 1);
+        // By nodes: 012, 02, 01012, 0102, 0101012, 01212.
+        walks("there", x, 0, 2, 3, 4, 5, 6, 7, 7);
+        // By nodes: 0, 010, 01010, 0101010, 01210, 0120 (and 0210 of the same seconds).
+        walks("to itself", x, 0, 0, 0, 2, 4, 6, 6, 7);
+    }
+
+    private static void walksOfOtherUnitsAndHours() {
+        WayTimes x = new WayTimes();
+        x.net(2);
+        x.piece(0, 1, 1000, 36);
+        x.piece(0, 1, 1500, 36);
+        x.unit(0, 10, 0, 1, 1);
+        walks("both pieces", x, 0, 1, 100, 150, 300, 350, 350, 350);
+        x.limit(0, 9, 0);
+        walks("the longer piece alone", x, 0, 1, 150, 450, 750, 1050, 1350, 1650);
+        x.slow(1, 0, 0, 50);
+        walks("in hour 0", x, 0, 1, 300, 900, 1500, 2100, 2700, 3300);
+        DUE.same("in hour 1, walk 6", x.walk(0, 0, 1, 3600, 6), 1650);
+        DUE.same("in hour 0 of another day, walk 6", x.walk(0, 0, 1, 24 * 3600, 6), 3300);
+    }
+
     private static void ofNoPieces() {
         WayTimes x = Due.row(3);
         x.speed(1, 0);
@@ -56,5 +86,11 @@ public final class WalkTest {
         DUE.outside("n 0", () -> x.walk(0, 0, 1, 0, 0));
         DUE.outside("n -1", () -> x.walk(0, 0, 1, 0, -1));
         DUE.outside("n 7", () -> x.walk(0, 0, 1, 0, 7));
+        DUE.unknown("the unit comes before n", () -> x.walk(1, 0, 1, 0, 7));
+        DUE.unknown("a comes before n", () -> x.walk(0, 2, 1, 0, 7));
+        DUE.unknown("b comes before n", () -> x.walk(0, 0, 2, 0, 7));
+        x.close(0, true);
+        DUE.outside("n 7 without a walk", () -> x.walk(0, 0, 1, 0, 7));
+        DUE.outside("n 0 without a walk", () -> x.walk(0, 0, 1, 0, 0));
     }
 }

@@ -7,6 +7,9 @@ public final class WayTest {
         lastPieceIsLookedForFromTheEnd();
         roundingCountsEachPiece();
         unitsDiffer();
+        noWay();
+        stepsBeforeAWay();
+        stepsOfTheLatestWayAlone();
         stepsStay();
         longest();
         refusals();
@@ -74,6 +77,52 @@ public final class WayTest {
         DUE.same("the time at which it begins counts", x.way(0, 0, 2, 8 * 3600 - 1), 100);
     }
 
+    private static void noWay() {
+        WayTimes x = Due.row(4);
+        x.close(1, true);
+        DUE.same("none there", x.way(0, 0, 3, 0), -1);
+        DUE.steps("none there", x);
+        DUE.same("none back", x.way(0, 3, 0, 0), -1);
+        DUE.steps("none back", x);
+        DUE.same("to the last node that is reached", x.way(0, 0, 1, 0), 100);
+        DUE.steps("to the last node that is reached", x, 0);
+        x.net(2);
+        x.unit(0, 0, 0, 1, 1);
+        DUE.same("without pieces", x.way(0, 0, 1, 0), -1);
+        DUE.same("without pieces to itself", x.way(0, 1, 1, 0), 0);
+    }
+
+    private static void stepsBeforeAWay() {
+        WayTimes x = new WayTimes();
+        DUE.steps("of a new object", x);
+        DUE.outside("of a new object, step -1", () -> x.step(-1));
+        x.net(2);
+        x.piece(0, 1, 1000, 36);
+        x.unit(0, 0, 0, 1, 1);
+        x.walk(0, 0, 1, 0, 1);
+        x.rest(0, 0, 1, 1, 0);
+        x.nearest(1, 0);
+        x.keep(0, 0, 0, 0);
+        x.kept(0, 1);
+        DUE.steps("before a way", x);
+    }
+
+    private static void stepsOfTheLatestWayAlone() {
+        WayTimes x = Due.row(4);
+        x.way(0, 0, 3, 0);
+        DUE.steps("three", x, 0, 1, 2);
+        x.way(0, 2, 1, 0);
+        DUE.steps("one behind three", x, 1);
+        x.way(0, 3, 1, 0);
+        DUE.steps("two behind one", x, 2, 1);
+        x.way(0, 3, 3, 0);
+        DUE.steps("none behind two", x);
+        x.way(0, 0, 2, 0);
+        x.close(2, true);
+        x.way(0, 0, 3, 0);
+        DUE.steps("of one that is not there, behind two", x);
+    }
+
     private static void stepsStay() {
         WayTimes x = Due.row(4);
         x.way(0, 0, 2, 0);
@@ -110,7 +159,10 @@ public final class WayTest {
         DUE.unknown("a 2 of 2", () -> x.way(0, 2, 0, 0));
         DUE.unknown("b -1", () -> x.way(0, 0, -1, 0));
         DUE.unknown("b 2 of 2", () -> x.way(0, 0, 2, -1));
+        DUE.unknown("the unit comes before t", () -> x.way(1, 0, 1, -1));
+        DUE.unknown("a comes before t", () -> x.way(0, 2, 1, -1));
         DUE.outside("t -1", () -> x.way(0, 0, 1, -1));
+        DUE.outside("t lowest", () -> x.way(0, 0, 1, Integer.MIN_VALUE));
         DUE.same("the greatest time", x.way(0, 0, 1, Integer.MAX_VALUE), 100);
     }
 }
