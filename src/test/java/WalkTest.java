@@ -6,6 +6,7 @@ public final class WalkTest {
         onOnePiece();
         sameSecondsCountEach();
         onATriangle();
+        lesserWalksThatComeInLater();
         walksOfOtherUnitsAndHours();
         ofNoPieces();
         refusals();
@@ -47,6 +48,27 @@ public final class WalkTest {
         walks("there", x, 0, 2, 3, 4, 5, 6, 7, 7);
         // By nodes: 0, 010, 01010, 0101010, 01210, 0120 (and 0210 of the same seconds).
         walks("to itself", x, 0, 0, 0, 2, 4, 6, 6, 7);
+    }
+
+    /** Six walks straight to 1 are known before the lesser ones over 2 push them out, one after the other. */
+    private static void lesserWalksThatComeInLater() {
+        WayTimes x = new WayTimes();
+        x.net(4);
+        for (int i = 0; i < 6; i++) {
+            x.piece(0, 1, 1000 - 10 * i, 36);
+        }
+        x.piece(0, 2, 10, 36);
+        x.piece(2, 1, 10, 36);
+        x.unit(0, 0, 0, 1, 1);
+        walks("over 2", x, 0, 1, 2, 4, 4, 6, 6, 6);
+        walks("to 2", x, 0, 2, 1, 3, 3, 5, 5, 5);
+        walks("to 3", x, 0, 3, -1, -1, -1, -1, -1, -1);
+        x.speed(7, 1);
+        // Over 2 it is 1 and 36 seconds; to and fro between 0 and 2 it is 2 more each time.
+        walks("over a slow piece", x, 0, 1, 37, 39, 41, 43, 45, 47);
+        x.slow(7, 0, 23, 38);
+        // Over 2 it is 1 and 95 seconds; piece 5 takes 95, piece 4 takes 96.
+        walks("over a slower piece", x, 0, 1, 95, 96, 96, 97, 97, 98);
     }
 
     private static void walksOfOtherUnitsAndHours() {
